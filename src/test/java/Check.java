@@ -1,3 +1,5 @@
+import java.util.List;
+
 /** Counts answers that are not as due, and ends a test with exit code 1 if there was one. */
 final class Check {
     private static int wrong = 0;
@@ -11,6 +13,13 @@ final class Check {
             if (wrong <= 50) {
                 System.out.println(call + " answered " + got + ", due is " + want);
             }
+        }
+    }
+
+    static void same(String call, List<Long> got, List<Long> want) {
+        due(call + ": how many", got.size(), want.size());
+        for (int i = 0; i < Math.min(got.size(), want.size()); i++) {
+            due(call + ": " + i, got.get(i), want.get(i));
         }
     }
 
