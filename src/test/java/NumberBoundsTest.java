@@ -36,8 +36,9 @@ public final class NumberBoundsTest {
 
     private static void insideIsTaken(Scenes scene, Face.Call call) {
         for (int place = 0; place < call.bounds().length; place++) {
-            int[] bound = call.bounds()[place];
-            for (int number : List.of(bound[0], Math.min(bound[0] + 1, bound[1]), Math.max(bound[0], bound[1] - 1), bound[1])) {
+            int least = call.bounds()[place][0];
+            int most = call.bounds()[place][1];
+            for (int number : List.of(least, Math.min(least + 1, most), Math.max(least, most - 1), most)) {
                 int[] numbers = call.with(place, number);
                 isAnswered(scene, call, numbers, dueRefusal(scene, call, numbers));
             }

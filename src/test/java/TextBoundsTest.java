@@ -57,7 +57,12 @@ public final class TextBoundsTest {
         LockFlight x = typed(text + " ".repeat(150 - text.length()));
         Check.due("the 151st byte", x.type(';'), -4);
         Check.due("150 bytes", x.read(), 9);
-        Check.due("the last lock's ROAD", x.of(7, 2), 20);
+        Check.due("STRENGTH", x.count(1), 9);
+        for (int lock = 0; lock < 8; lock++) {
+            Check.due("KIND", x.of(lock, 0), 5);
+            Check.due("STANDS", x.of(lock, 1), 1);
+            Check.due("ROAD", x.of(lock, 2), 20);
+        }
         LockFlight late = typed(" ".repeat(150 - text.length()) + text);
         Check.due("; is the 150th byte", late.read(), 9);
         Check.due("bytes of a full text stay", late.clear(), 150);
@@ -144,7 +149,8 @@ public final class TextBoundsTest {
     }
 
     private static void wordsThatAreNone() {
-        for (String word : List.of("f", "fligh", "flights", "flightt", "flightflight", "flightlock", "plain", "a", "z", "fliight")) {
+        for (String word : List.of("f", "a", "z", "fligh", "flights", "flightt", "fliight", "flightflight", "flightlock",
+            "plain")) {
             fault(word + " 1;", 0);
             fault("flight 1;" + word + " 0 0 1;", 9);
         }
@@ -152,6 +158,10 @@ public final class TextBoundsTest {
             fault("flight 1;" + word + " 0 0 1;", 9);
         }
         fault("lightf 1;", 0);
+        fault("slight 1;", 0);
+        fault("flighu 1;", 0);
+        fault("flight 1;mock 0 0 1;", 9);
+        fault("flight 1;locl 0 0 1;", 9);
         fault("Flight 1;", 0);
         // the letters ahead of T are a word that is none; behind a whole word T begins no token
         fault("flighT 1;", 0);
@@ -299,5 +309,18 @@ public final class TextBoundsTest {
         Check.type(x, ";");
         Check.due("no lock of the old text is seen", x.read(), 1);
         Check.due("STRENGTH", x.count(1), 8);
+        goneBehind("flights", "flight", -16);
+        goneBehind("flight 12", "flight 1", -18);
+        goneBehind("flight 1;locks", "flight 1;lock", -23);
+        goneBehind("flight 1;lock 0 0 200", "flight 1;lock 0 0 20", -30);
+        goneBehind("flight 1;;", "flight 1;", 1);
+    }
+
+    /** A text that is the start of one that was cleared. */
+    private static void goneBehind(String old, String text, int answer) {
+        LockFlight x = typed(old);
+        x.clear();
+        Check.type(x, text);
+        Check.due("'" + text + "' behind '" + old + "'", x.read(), answer);
     }
 }
