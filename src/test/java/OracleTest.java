@@ -14,24 +14,18 @@ public final class OracleTest {
     private static void oneFlight(int n) {
         int strength = RANDOM.nextInt(10);
         int[][] locks = new int[n][];
-        LockFlight x = new LockFlight();
-        x.flight(strength);
         // long ways between few kinds make locks leak back more often
         boolean far = RANDOM.nextBoolean();
         for (int i = 0; i < n; i++) {
             int road = far ? 12 + RANDOM.nextInt(9) : 1 + RANDOM.nextInt(20);
-            locks[i] = new int[] {RANDOM.nextInt(6), RANDOM.nextInt(2), road};
-            x.lock(locks[i][0], locks[i][1], locks[i][2]);
+            locks[i] = Check.lock(RANDOM.nextInt(6), RANDOM.nextInt(2), road);
         }
-        long before = x.digest();
         for (int down = 0; down < 2; down++) {
             for (int ahead = 0; ahead < 3; ahead++) {
-                int k = 1 + RANDOM.nextInt(9);
-                runs(x, locks, strength, down, ahead, k);
-                sets(x, locks, strength, down, ahead, k);
+                asked(locks, strength, down, ahead);
             }
         }
-        Check.due("nothing is changed", x.digest(), before);
+        LockFlight x = Check.flight(strength, locks);
         for (int ahead = 0; ahead < 3; ahead++) {
             drawn(x, locks, strength, ahead);
         }
@@ -39,6 +33,16 @@ public final class OracleTest {
             int ahead = 1 + RANDOM.nextInt(2);
             readings(x, locks, strength, down, ahead, RANDOM.nextInt(2));
         }
+    }
+
+    /** By an object of its own, as one is used for 512 calls at most. */
+    private static void asked(int[][] locks, int strength, int down, int ahead) {
+        LockFlight x = Check.flight(strength, locks);
+        int k = 1 + RANDOM.nextInt(9);
+        long before = x.digest();
+        runs(x, locks, strength, down, ahead, k);
+        sets(x, locks, strength, down, ahead, k);
+        Check.due("nothing is changed", x.digest(), before);
     }
 
     private static void runs(LockFlight x, int[][] locks, int strength, int down, int ahead, int k) {

@@ -3,9 +3,13 @@ import java.util.Random;
 /** Random runs of calls that change something, against the twin; texts whole, cut and spoilt among them. */
 public final class TwinTest {
     private static final Random RANDOM = new Random(77);
+    // an object is used for 512 calls at most, of which a text may take 225
+    private static final int LAST_TO_BEGIN = 280;
+    // a fraction drawn, its two parts, the digest
+    private static final int MOST_CALLS = 4;
 
     public static void main(String[] args) {
-        for (int i = 0; i < 600; i++) {
+        for (int i = 0; i < 3000; i++) {
             oneObject();
         }
         Check.end();
@@ -14,8 +18,12 @@ public final class TwinTest {
     private static void oneObject() {
         LockFlight x = new LockFlight();
         Twin twin = new Twin();
-        for (int calls = 0; calls < 300; calls++) {
-            oneCall(x, twin);
+        for (int calls = 0; calls < LAST_TO_BEGIN; calls += MOST_CALLS) {
+            if (RANDOM.nextInt(14) == 0) {
+                calls += text(x, twin);
+            } else {
+                oneCall(x, twin);
+            }
             Check.due("digest", x.digest(), twin.digest());
         }
         for (int what = 0; what < 3; what++) {
@@ -35,7 +43,7 @@ public final class TwinTest {
         int c = near(1, 9);
         int d = near(0, 1);
         int place = near(0, 7);
-        switch (RANDOM.nextInt(28)) {
+        switch (RANDOM.nextInt(26)) {
             case 0: Check.due("flight", x.flight(c), twin.flight(c)); break;
             case 1: case 2: case 3: case 4:
                 int kind = near(0, 5);
@@ -62,16 +70,15 @@ public final class TwinTest {
                     twin.heardFraction(x.part(0), x.part(1));
                 }
                 break;
-            case 25:
+            default:
                 if (x.takes(a, b, c, d, 0) == -2) {
                     twin.heardRefusal();
                 }
-                break;
-            default: text(x, twin);
         }
     }
 
-    private static void text(LockFlight x, Twin twin) {
+    /** How many calls it took. */
+    private static int text(LockFlight x, Twin twin) {
         StringBuilder text = new StringBuilder(blanks(0) + "flight" + blanks(0) + number(9) + blanks(0) + ";");
         int locks = RANDOM.nextInt(10);
         for (int i = 0; i < locks; i++) {
@@ -84,6 +91,7 @@ public final class TwinTest {
             Check.due("type", x.type(text.charAt(i)), twin.type(text.charAt(i)));
         }
         Check.due("read '" + text + "'", x.read(), twin.read());
+        return 2 + text.length();
     }
 
     private static String blanks(int least) {
