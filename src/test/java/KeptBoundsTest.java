@@ -3,7 +3,7 @@ import java.util.List;
 
 /** What is kept, undone, counted: each sentence that names a bound, from both sides of it. */
 public final class KeptBoundsTest {
-    private static final int PLAIN = 0, STIFF = 1;
+    private static final int PLAIN = 0, STIFF = 1, RUSTY = 3;
 
     public static void main(String[] args) {
         newObject();
@@ -25,6 +25,8 @@ public final class KeptBoundsTest {
         countsAtTheirEnds();
         digestOfNothing();
         digestWrapsRound();
+        lastCallOfAnObject();
+        refusedToTheLastCall();
         Check.end();
     }
 
@@ -379,5 +381,33 @@ public final class KeptBoundsTest {
         Check.due("with one", x.digest(), folded(x, 1, 3));
         x.flight(5);
         Check.due("without LOCKS", x.digest(), folded(x));
+    }
+
+    /** An object is used for 512 calls: the last one still tells the truth of all those ahead of it. */
+    private static void lastCallOfAnObject() {
+        LockFlight x = Way.flight(0, 4, Way.places(8, RUSTY, Way.WRONG, 20));
+        int calls = 9;
+        for (; calls < 510; calls++) {
+            // up behind up, so that none ever stands right: 8 times 8 + 9 + 2, 7 times 20 on the way
+            Check.due("run", x.run(0, 0, 1, 1), 292);
+        }
+        Check.due("TIME, 511th call", x.count(2), 292 * (calls - 9));
+        Check.due("WATER, 512th call", x.count(3), 16 * (calls - 9));
+    }
+
+    private static void refusedToTheLastCall() {
+        LockFlight bad = new LockFlight();
+        LockFlight no = new LockFlight();
+        LockFlight full = Way.flight(0, 4, Way.places(8, RUSTY, Way.WRONG, 20));
+        for (int i = 0; i < 511; i++) {
+            bad.flight(-1);
+            no.undo();
+        }
+        for (int i = 9; i < 511; i++) {
+            full.lock(PLAIN, 0, 1);
+        }
+        Check.due("BAD, 512th call", bad.status(0), 511);
+        Check.due("NO, 512th call", no.status(1), 511);
+        Check.due("FULL, 512th call", full.status(2), 502);
     }
 }
